@@ -16,7 +16,6 @@ public final class RopeToALake {
     private final Valley picture;
     private boolean isPictured;
     private final Past past;
-    private final Tape tape;
     private final Reader reader;
     private final Watches watches;
     private final Ledger ledger;
@@ -26,8 +25,7 @@ public final class RopeToALake {
         picture = new Valley();
         isPictured = false;
         past = new Past();
-        tape = new Tape();
-        reader = new Reader(tape);
+        reader = new Reader();
         watches = new Watches();
         ledger = new Ledger();
     }
@@ -104,6 +102,7 @@ public final class RopeToALake {
     }
 
     public int feed(int a, int b, int c, int d, int e) {
+        Tape tape = reader.tape;
         if (!tape.hasRoom()) {
             return NONE;
         }
@@ -116,16 +115,16 @@ public final class RopeToALake {
     }
 
     public boolean end(int n) {
-        if (!isWithin(n, 0, tape.length)) {
+        if (!isWithin(n, 0, reader.tape.length)) {
             return false;
         }
-        tape.length = n;
+        reader.tape.length = n;
         return true;
     }
 
     public int text() {
         reader.read();
-        tape.length = 0;
+        reader.tape.length = 0;
         if (reader.faultKind != 0) {
             return NONE;
         }
@@ -767,13 +766,32 @@ public final class RopeToALake {
         }
     }
 
-    /** The bytes that have come and are no law yet. */
+    /** The bytes that have come and are no law yet, and the tokens they make. */
     private static final class Tape {
         static final int MOST_BYTES = 400;
+        static final int BAD = -1;
+        static final int END = -2;
+        static final int SHARE = -300;
+        static final int WHEN = -301;
+        static final int OR = -302;
+        static final int AND = -303;
+        static final int NOT = -304;
+        static final int FARM = -305;
+        static final int DAY = -314;
+        /** In the order of the tokens from SHARE down to DAY, a blank behind each. */
+        private static final String WORDS =
+                "share when or and not farm pulled arms weeds need drops wet dry owes day ";
+        private static final String SIGNS = ";+-*/()<=>";
+        private static final int MOST_DIGITS = 4;
         private static final int BYTES_OF_FEED = 20;
 
         int length;
         private final int[] signs = new int[MOST_BYTES];
+        /** A number stands for itself, all else is below 0: a sign is its code less than 0. */
+        final int[] token = new int[MOST_BYTES + 1];
+        final int[] place = new int[MOST_BYTES + 1];
+        int tokens;
+        private int at;
 
         boolean hasRoom() {
             return length + BYTES_OF_FEED <= MOST_BYTES;
@@ -788,71 +806,141 @@ public final class RopeToALake {
             }
         }
 
-        int signAt(int place) {
-            return isWithin(place, 0, Math.min(length, MOST_BYTES) - 1) ? signs[place] : 0;
+        private int signAt(int i) {
+            return isWithin(i, 0, Math.min(length, MOST_BYTES) - 1) ? signs[i] : 0;
+        }
+
+        /** Each round takes one byte at least, so that there are no more tokens than bytes, and the END. */
+        void scan() {
+            tokens = 0;
+            at = 0;
+            for (int i = 0; i < MOST_BYTES && at < length; i++) {
+                int sign = signAt(at);
+                if (sign == 32 || sign == 10) {
+                    at++;
+                } else {
+                    place[tokens] = at;
+                    token[tokens] = scanToken(sign);
+                    tokens++;
+                }
+            }
+            place[tokens] = length;
+            token[tokens] = END;
+            tokens++;
+        }
+
+        private int scanToken(int sign) {
+            if (isLetter(sign)) {
+                return scanWord();
+            }
+            if (isDigit(sign)) {
+                return scanNumber();
+            }
+            at++;
+            return SIGNS.indexOf((char) sign) >= 0 ? -sign : BAD;
+        }
+
+        private int scanWord() {
+            int from = at;
+            while (at < length && isLetter(signAt(at))) {
+                at++;
+            }
+            int word = SHARE;
+            int begin = 0;
+            for (int i = 0; i < WORDS.length(); i++) {
+                if (WORDS.charAt(i) == ' ') {
+                    if (i - begin == at - from && isWordAt(begin, i, from)) {
+                        return word;
+                    }
+                    word--;
+                    begin = i + 1;
+                }
+            }
+            return BAD;
+        }
+
+        private boolean isWordAt(int begin, int behind, int from) {
+            for (int i = begin; i < behind; i++) {
+                if (WORDS.charAt(i) != signAt(from + i - begin)) {
+                    return false;
+                }
+            }
+            return true;
+        }
+
+        private int scanNumber() {
+            int from = at;
+            int number = 0;
+            while (at < length && isDigit(signAt(at))) {
+                number = at - from < MOST_DIGITS ? number * 10 + signAt(at) - '0' : BAD;
+                at++;
+            }
+            return number;
+        }
+
+        private static boolean isLetter(int sign) {
+            return isWithin(sign, 'a', 'z') || isWithin(sign, 'A', 'Z');
+        }
+
+        private static boolean isDigit(int sign) {
+            return isWithin(sign, '0', '9');
         }
     }
 
     /**
-     * Reads a text into code for the law's stack: numbers stand for themselves, all else is its kind
-     * below 0. A fault turns the kind into BAD, which nothing takes, so that all loops end by themselves.
+     * Reads the tape's tokens into code for the law's stack: the same tokens, the operands ahead of what
+     * joins them. A fault turns the token into BAD, which nothing takes, so that all loops end by themselves.
      */
     private static final class Reader {
-        static final int SHARE = 300;
-        static final int WHEN = 301;
-        static final int OR = 302;
-        static final int AND = 303;
-        static final int NOT = 304;
-        static final int FARM = 305;
-        static final int DAY = 314;
-        private static final String WORDS =
-                "share when or and not farm pulled arms weeds need drops wet dry owes day ";
-        private static final String SIGNS = ";+-*/()<=>";
-        private static final int BAD = 1;
-        private static final int END = 2;
-        private static final int NUMBER = 3;
         private static final int MOST_LINES = 16;
         private static final int MOST_OPEN = 8;
         private static final int CANNOT_STAND = 1;
         private static final int PART_BY_ZERO = 2;
         private static final int TOO_MANY = 3;
 
+        final Tape tape = new Tape();
         int faultKind;
         int faultPlace = NONE;
         int lines;
         int length;
         final int[] code = new int[Tape.MOST_BYTES];
-        private final Tape source;
         private int at;
-        private int kind;
-        private int place;
-        private int value;
-
-        Reader(Tape tape) {
-            source = tape;
-        }
+        private int token;
 
         void read() {
-            at = 0;
+            tape.scan();
             faultKind = 0;
             faultPlace = NONE;
             lines = 0;
             length = 0;
-            next();
-            for (int i = 0; i <= MOST_LINES && kind == SHARE; i++) {
-                readLine();
+            at = 0;
+            token = tape.token[0];
+            for (int i = 0; i <= MOST_LINES && token == Tape.SHARE; i++) {
+                if (i < MOST_LINES) {
+                    readLine();
+                } else {
+                    fail(TOO_MANY);
+                }
             }
-            if (kind != END) {
+            if (token != Tape.END) {
                 fail(CANNOT_STAND);
             }
         }
 
+        /** Only the first fault counts: what is read behind it is no law any more. */
         private void fail(int what) {
             if (faultKind == 0) {
                 faultKind = what;
-                faultPlace = place;
+                faultPlace = tape.place[at];
             }
-            kind = BAD;
+            token = Tape.BAD;
+        }
+
+        private void next() {
+            if (at + 1 < tape.tokens) {
+                at++;
+                token = tape.token[at];
+            }
         }
 
         private void emit(int c) {
@@ -863,7 +951,7 @@ public final class RopeToALake {
         }
 
         private void expect(int wanted) {
-            if (kind == wanted) {
+            if (token == wanted) {
                 next();
             } else {
                 fail(CANNOT_STAND);
@@ -871,53 +959,52 @@ public final class RopeToALake {
         }
 
         private void readLine() {
-            if (lines >= MOST_LINES) {
-                fail(TOO_MANY);
-                return;
-            }
             lines++;
             next();
             readSum();
-            if (kind == WHEN) {
+            if (token == Tape.WHEN) {
                 next();
                 readAny(0);
-                emit(-WHEN);
+                emit(Tape.WHEN);
             } else {
-                emit(-SHARE);
+                emit(Tape.SHARE);
             }
-            expect(';');
+            expect(-';');
         }
 
+        /** A + or - waits till the product behind it has been read; * and / don't. */
         private void readSum() {
-            readProduct();
-            for (int i = 0; i < Tape.MOST_BYTES && (kind == '+' || kind == '-'); i++) {
-                int sign = kind;
+            readUnit();
+            int waiting = 0;
+            for (int i = 0; i < Tape.MOST_BYTES && isArithmetic(token); i++) {
+                int sign = token;
+                boolean isOfProduct = sign == -'*' || sign == -'/';
+                if (!isOfProduct && waiting != 0) {
+                    emit(waiting);
+                }
+                waiting = isOfProduct ? waiting : sign;
                 next();
-                readProduct();
-                emit(-sign);
+                if (sign == -'/') {
+                    readDivisor();
+                } else {
+                    readUnit();
+                }
+                if (isOfProduct) {
+                    emit(sign);
+                }
+            }
+            if (waiting != 0) {
+                emit(waiting);
             }
         }
 
-        private void readProduct() {
-            readUnit();
-            for (int i = 0; i < Tape.MOST_BYTES && (kind == '*' || kind == '/'); i++) {
-                int sign = kind;
-                next();
-                if (sign == '*') {
-                    readUnit();
-                } else {
-                    readDivisor();
-                }
-                emit(-sign);
-            }
+        private static boolean isArithmetic(int sign) {
+            return sign == -'+' || sign == -'-' || sign == -'*' || sign == -'/';
         }
 
         private void readUnit() {
-            if (kind == NUMBER) {
-                emit(value);
-                next();
-            } else if (isWithin(kind, FARM, DAY)) {
-                emit(-kind);
+            if (token >= 0 || isWithin(token, Tape.DAY, Tape.FARM)) {
+                emit(token);
                 next();
             } else {
                 fail(CANNOT_STAND);
@@ -925,126 +1012,58 @@ public final class RopeToALake {
         }
 
         private void readDivisor() {
-            if (kind == NUMBER && value == 0) {
-                fail(PART_BY_ZERO);
-            } else if (kind == NUMBER) {
-                emit(value);
+            if (token > 0) {
+                emit(token);
                 next();
             } else {
-                fail(CANNOT_STAND);
+                fail(token == 0 ? PART_BY_ZERO : CANNOT_STAND);
             }
         }
 
+        /** An or waits till the ands behind it have been read. */
         private void readAny(int open) {
-            readAll(open);
-            for (int i = 0; i < Tape.MOST_BYTES && kind == OR; i++) {
-                next();
-                readAll(open);
-                emit(-OR);
-            }
-        }
-
-        private void readAll(int open) {
             readCondition(open);
-            for (int i = 0; i < Tape.MOST_BYTES && kind == AND; i++) {
+            boolean isWaiting = false;
+            for (int i = 0; i < Tape.MOST_BYTES && (token == Tape.OR || token == Tape.AND); i++) {
+                int sign = token;
+                if (sign == Tape.OR && isWaiting) {
+                    emit(Tape.OR);
+                }
+                isWaiting = isWaiting || sign == Tape.OR;
                 next();
                 readCondition(open);
-                emit(-AND);
+                if (sign == Tape.AND) {
+                    emit(Tape.AND);
+                }
+            }
+            if (isWaiting) {
+                emit(Tape.OR);
             }
         }
 
         private void readCondition(int open) {
-            if (kind != NOT && kind != '(') {
-                readComparison();
-            } else if (open >= MOST_OPEN) {
+            boolean opens = token == Tape.NOT || token == -'(';
+            if (opens && open >= MOST_OPEN) {
                 fail(TOO_MANY);
-            } else if (kind == NOT) {
+            } else if (token == Tape.NOT) {
                 next();
                 readCondition(open + 1);
-                emit(-NOT);
-            } else {
+                emit(Tape.NOT);
+            } else if (opens) {
                 next();
                 readAny(open + 1);
-                expect(')');
-            }
-        }
-
-        private void readComparison() {
-            readSum();
-            int sign = kind;
-            if (sign != '<' && sign != '=' && sign != '>') {
-                fail(CANNOT_STAND);
-                return;
-            }
-            next();
-            readSum();
-            emit(-sign);
-        }
-
-        private void next() {
-            while (at < source.length && isBlank(source.signAt(at))) {
-                at++;
-            }
-            place = at;
-            int sign = source.signAt(at);
-            if (at >= source.length) {
-                kind = END;
-            } else if (isLetter(sign)) {
-                readWord();
-            } else if (isDigit(sign)) {
-                readNumber();
+                expect(-')');
             } else {
-                kind = SIGNS.indexOf((char) sign) >= 0 ? sign : BAD;
-                at++;
-            }
-        }
-
-        private void readWord() {
-            while (at < source.length && isLetter(source.signAt(at))) {
-                at++;
-            }
-            kind = BAD;
-            int word = SHARE;
-            int begin = 0;
-            for (int i = 0; i < WORDS.length() && kind == BAD; i++) {
-                if (WORDS.charAt(i) == ' ') {
-                    if (i - begin == at - place && isWordAt(begin, i)) {
-                        kind = word;
-                    }
-                    word++;
-                    begin = i + 1;
+                readSum();
+                int sign = token;
+                if (sign == -'<' || sign == -'=' || sign == -'>') {
+                    next();
+                    readSum();
+                    emit(sign);
+                } else {
+                    fail(CANNOT_STAND);
                 }
             }
-        }
-
-        private boolean isWordAt(int begin, int behind) {
-            for (int i = begin; i < behind; i++) {
-                if (WORDS.charAt(i) != source.signAt(place + i - begin)) {
-                    return false;
-                }
-            }
-            return true;
-        }
-
-        private void readNumber() {
-            value = 0;
-            while (at < source.length && isDigit(source.signAt(at))) {
-                value = at - place < 4 ? value * 10 + source.signAt(at) - '0' : value;
-                at++;
-            }
-            kind = at - place <= 4 ? NUMBER : BAD;
-        }
-
-        private static boolean isBlank(int sign) {
-            return sign == 32 || sign == 10;
-        }
-
-        private static boolean isLetter(int sign) {
-            return isWithin(sign, 'a', 'z') || isWithin(sign, 'A', 'Z');
-        }
-
-        private static boolean isDigit(int sign) {
-            return isWithin(sign, '0', '9');
         }
     }
 
@@ -1095,24 +1114,24 @@ public final class RopeToALake {
         int weigh(int farm, Folk folk, Moving moving) {
             top = 0;
             for (int i = 0; i < length; i++) {
-                int kind = -code[i];
-                if (kind <= 0) {
-                    push(code[i]);
-                } else if (kind == Reader.SHARE) {
+                int token = code[i];
+                if (token >= 0) {
+                    push(token);
+                } else if (token == Tape.SHARE) {
                     return hold(pop());
-                } else if (kind == Reader.WHEN) {
+                } else if (token == Tape.WHEN) {
                     boolean isSo = pop() != 0;
                     int weight = pop();
                     if (isSo) {
                         return hold(weight);
                     }
-                } else if (kind == Reader.NOT) {
+                } else if (token == Tape.NOT) {
                     push(1 - pop());
-                } else if (kind >= Reader.FARM) {
-                    push(valueOf(kind, farm, folk, moving));
+                } else if (token <= Tape.FARM) {
+                    push(valueOf(token, farm, folk, moving));
                 } else {
                     int right = pop();
-                    push(join(kind, pop(), right));
+                    push(join(token, pop(), right));
                 }
             }
             return 0;
@@ -1122,24 +1141,24 @@ public final class RopeToALake {
             return Math.max(0, Math.min(MOST_WEIGHT, weight));
         }
 
-        private static int join(int kind, int left, int right) {
-            switch (kind) {
-                case '+': return left + right;
-                case '-': return left - right;
-                case '*': return left * right;
-                case '/': return right > 0 ? left / right : 0;
-                case '<': return left < right ? 1 : 0;
-                case '=': return left == right ? 1 : 0;
-                case '>': return left > right ? 1 : 0;
-                case Reader.AND: return left & right;
-                case Reader.OR: return left | right;
+        private static int join(int token, int left, int right) {
+            switch (token) {
+                case -'+': return left + right;
+                case -'-': return left - right;
+                case -'*': return left * right;
+                case -'/': return right > 0 ? left / right : 0;
+                case -'<': return left < right ? 1 : 0;
+                case -'=': return left == right ? 1 : 0;
+                case -'>': return left > right ? 1 : 0;
+                case Tape.AND: return left & right;
+                case Tape.OR: return left | right;
                 default: return 0;
             }
         }
 
-        /** The kinds go as the words of the reader stand, from FARM on. */
-        private static int valueOf(int kind, int farm, Folk folk, Moving moving) {
-            switch (kind - Reader.FARM) {
+        /** The words stand here as they do on the tape, from FARM on. */
+        private static int valueOf(int token, int farm, Folk folk, Moving moving) {
+            switch (Tape.FARM - token) {
                 case 0: return farm;
                 case 1: return moving.pulledToday[farm];
                 case 2: return folk.trait[Folk.ARMS][farm];
@@ -1308,7 +1327,7 @@ public final class RopeToALake {
         private void shareTrough() {
             int weights = 0;
             for (int f = 0; f < folk.farms; f++) {
-                weight[f] = weightOf(f);
+                weight[f] = law.weigh(f, folk, moving);
                 weights += weight[f];
             }
             if (weights <= 0) {

@@ -7,46 +7,48 @@ public final class PromisesTest {
     private static int wrong = 0;
 
     public static void main(String[] args) {
-        newObject();
-        stateIsTold();
-        notchesAreTold();
-        buckets();
-        farms();
-        tellings();
-        fullValley();
-        turns();
-        absences();
-        splices();
-        mending();
-        foes();
-        feeding();
-        ending();
-        texts();
-        faultPlaces();
-        faultLimits();
-        weights();
-        hours();
-        hoursToTheLastDay();
-        frost();
-        breakingWithinAnHour();
-        drips();
-        midnight();
-        shares();
-        farmAnswers();
-        pails();
-        parts();
-        debts();
-        deals();
-        bestTurns();
-        peace();
-        logs();
-        slowHands();
-        breaking();
-        lasting();
-        undoing();
-        undoAndTellings();
-        images();
-        looks();
+        newObject(); // promise 1
+        stateIsTold(); // promise 2
+        notchesAreTold(); // promise 3
+        notchesMakeAllAnew(); // promise 3
+        buckets(); // promise 4
+        farms(); // promise 5
+        tellings(); // promise 6
+        fullValley(); // promise 6
+        turns(); // promise 7
+        absences(); // promise 8
+        splices(); // promise 9
+        mending(); // promise 10
+        foes(); // promise 11
+        feeding(); // promise 12
+        ending(); // promise 13
+        texts(); // promise 14
+        faultPlaces(); // promise 15
+        faultLimits(); // promise 15
+        weights(); // promise 14, 17
+        hours(); // promise 16
+        hoursToTheLastDay(); // promise 16
+        frost(); // promise 16
+        breakingWithinAnHour(); // promise 16
+        drips(); // promise 16
+        midnight(); // promise 16
+        shares(); // promise 16
+        farmAnswers(); // promise 17
+        pails(); // promise 18
+        parts(); // promise 19
+        debts(); // promise 20
+        deals(); // promise 21
+        bestTurns(); // promise 22
+        peace(); // promise 23
+        logs(); // promise 24
+        slowHands(); // promise 25
+        breaking(); // promise 26
+        lasting(); // promise 27
+        undoing(); // promise 28
+        undoAndTellings(); // promise 28
+        images(); // promise 29
+        imageOfAllThatWasTold(); // promise 29
+        looks(); // promise 30
         System.out.println(wrong == 0 ? "all promises hold" : wrong + " answers are not as due");
         if (wrong != 0) {
             System.exit(1);
@@ -195,6 +197,91 @@ public final class PromisesTest {
         yes("the same again", x.notches(8));
     }
 
+    /** A valley in which nothing is as at first, some days on. */
+    private static RopeToALake busy() {
+        RopeToALake x = new RopeToALake();
+        x.notches(14);
+        x.tell(6, 0, 5000);
+        for (int i = 0; i < 10; i++) {
+            x.bucket(13 - i, 90 + i % 9, i);
+        }
+        for (int i = 0; i < 9; i++) {
+            x.farm(30 + i, 1 + i % 3, 1, 3 + 40 * i);
+            x.log(i, 5 + i);
+        }
+        for (int i = 0; i < 8; i++) {
+            x.splice(90000 + i, 1 + i, 10 * i + 1);
+        }
+        for (int p = 1; p < 14; p++) {
+            x.tell(5, p, p % 9);
+        }
+        for (int h = 0; h < 24; h++) {
+            x.turn(h, h % 9);
+        }
+        for (int i = 0; i < 30; i++) {
+            x.absent(i % 3, i / 3, 3 + i % 3);
+        }
+        for (int a = 0; a < 9; a++) {
+            for (int b = 0; b < a; b++) {
+                x.foes(a, b, true);
+            }
+        }
+        x.tell(7, 0, 5);
+        x.tell(8, 0, 400);
+        law(x, "share drops+pulled+1 when farm>3; share wet+need+day+dry+owes;", 2);
+        x.hours(100);
+        due("drops came up", x.look(2) > 0 ? 1 : 0, 1);
+        return x;
+    }
+
+    /** Other tellings than those of busy(), which leave much untold; then a day and a half. */
+    private static void spareTellings(RopeToALake x) {
+        x.bucket(3, 20, 2);
+        x.tell(6, 0, 800);
+        x.farm(20, 0, 0, 1);
+        x.farm(10, 0, 1, 2);
+        x.farm(15, 2, 0, 0);
+        x.splice(70000, 3, 4);
+        x.turn(2, 0);
+        x.turn(9, 1);
+        x.hours(36);
+    }
+
+    private static void notchesMakeAllAnew() {
+        RopeToALake x = busy();
+        x.notches(8);
+        x.state(0);
+        RopeToALake y = new RopeToALake();
+        y.notches(8);
+        spareTellings(x);
+        spareTellings(y);
+        sameSight(x, y);
+        due("absences", x.absent(0, 0, 2) ? 1 : 0, 1);
+        due("peace", x.peace(0), 0);
+        for (int i = 0; i < 40; i++) {
+            yes("logs", x.log(0, 1));
+        }
+    }
+
+    private static void sameSight(RopeToALake x, RopeToALake y) {
+        for (int w = -1; w < 92; w++) {
+            due("look " + w, x.look(w), y.look(w));
+        }
+        for (int i = 0; i < 10; i++) {
+            for (int w = 0; w < 13; w++) {
+                due("of " + i + " " + w, x.of(i, w), y.of(i, w));
+                due("pail " + i + " " + w, x.pail(i, w), y.pail(i, w));
+                due("part " + i + " " + w, x.part(i, w), y.part(i, w));
+                due("owes " + i + " " + w, x.owes(i, w), y.owes(i, w));
+                due("slow " + i + " " + w, x.slow(i, w), y.slow(i, w));
+                due("best " + i + " " + w, x.best(i + w), y.best(i + w));
+                due("peace " + i + " " + w, x.peace(i + w), y.peace(i + w));
+            }
+        }
+        due("deals", x.deals(), y.deals());
+        due("lasting", x.lasting(30000, 0), y.lasting(30000, 0));
+    }
+
     private static void buckets() {
         RopeToALake x = new RopeToALake();
         for (int[] b : new int[][] {{-1, 5, 5}, {12, 5, 5}, {MIN, 5, 5}, {MAX, 5, 5}, {0, 0, 5}, {0, 100, 5},
@@ -257,6 +344,7 @@ public final class PromisesTest {
         no("hole of none", x.tell(4, 1, 5));
         no("hole of none", x.tell(4, -1, 5));
         due("hole", x.pail(0, 2), 99);
+        yes("no hole", x.tell(4, 0, 0));
         yes("field", x.tell(5, 1, 0));
         yes("field", x.tell(5, 11, 0));
         due("field", x.look(51), 0);
@@ -273,14 +361,17 @@ public final class PromisesTest {
         no("lake", x.tell(6, 0, 10000000));
         no("lake", x.tell(6, 0, -1));
         due("lake", x.look(1), 9999999);
+        yes("an empty lake", x.tell(6, 0, 0));
         yes("frost", x.tell(7, MAX, 60));
         no("frost", x.tell(7, 0, 61));
         no("frost", x.tell(7, 0, -1));
         due("frost", x.look(13), 60);
+        yes("no frost", x.tell(7, 0, 0));
         yes("cold", x.tell(8, -5, 1000));
         no("cold", x.tell(8, 0, 1001));
         no("cold", x.tell(8, 0, -1));
         due("cold", x.look(14), 1000);
+        yes("no cold", x.tell(8, 0, 0));
         no("another what", x.tell(9, 0, 0));
         no("another what", x.tell(-1, 0, 0));
         no("another what", x.tell(MIN, 0, 0));
@@ -695,6 +786,16 @@ public final class PromisesTest {
         x.hours(19);
         due("today is over", x.of(1, 8), 0);
         due("in all it stays", x.of(1, 7), 18);
+        for (int owner = 0; owner < 9; owner++) {
+            RopeToALake z = withFarms(9);
+            z.bucket(11, 9, 2);
+            z.tell(6, 0, 9);
+            z.tell(5, 1, owner);
+            z.tell(0, 0, 2);
+            z.turn(0, 0);
+            z.hours(1);
+            due("on the field of " + owner, z.of(owner, 4), 2);
+        }
         RopeToALake y = new RopeToALake();
         y.notches(8);
         y.bucket(0, 9, 9);
@@ -945,6 +1046,18 @@ public final class PromisesTest {
         due("four farms", y.best(0), 240);
         y.farm(0, 0, 0, 0);
         due("five farms", y.best(0), NONE);
+        RopeToALake idle = mill();
+        idle.hours(20);
+        idle.tell(0, 0, 0);
+        due("nobody can pull", idle.best(0), 190);
+        idle.tell(0, 0, 60);
+        idle.farm(0, 0, 0, 0);
+        due("sixty steps an hour", idle.best(0), 190 + 810);
+        idle.tell(6, 0, 9999);
+        due("sixty steps an hour", idle.best(0), 190 + 1800);
+        due("of four watches each", idle.best(10) + idle.best(11) + idle.best(12) + idle.best(13), 0);
+        idle.foes(0, 1, true);
+        due("peace behind best", idle.peace(13), 1);
         RopeToALake z = mill();
         z.hours(20);
         int now = z.look(2);
@@ -1005,6 +1118,13 @@ public final class PromisesTest {
             yes("log " + i, x.log(i % 2, i % 2 == 0 ? 0 : 60));
         }
         no("the forty-first", x.log(0, 5));
+        RopeToALake y = new RopeToALake();
+        y.farm(60, 0, 0, 0);
+        yes("the greatest log", y.log(0, 60));
+        due("not slow", y.slow(0, 0), 0);
+        due("not slow", y.slow(0, 1), 0);
+        yes("one less", y.log(0, 59));
+        due("not together", y.slow(0, 1), NONE);
     }
 
     private static void slowHands() {
@@ -1061,6 +1181,7 @@ public final class PromisesTest {
         }
         x.splice(0, 0, 1);
         due("one at 0 now", x.breaks(1), 5);
+        due("one at 0 now, but no steps", x.breaks(0), NONE);
     }
 
     private static void lasting() {
@@ -1072,6 +1193,8 @@ public final class PromisesTest {
         x.splice(10, 3, 7);
         x.splice(4, 1, 9999);
         x.splice(0, 0, 20);
+        due("prices", x.lasting(1, 0), 20);
+        due("set", x.lasting(2, 1), 16);
         due("prices", x.lasting(3, 0), 20);
         due("set", x.lasting(3, 1), 16);
         due("prices", x.lasting(4, 0), 20 + 9999 + 7);
@@ -1234,6 +1357,34 @@ public final class PromisesTest {
         x.hours(3);
         x.image(false);
         same(later, sight(x));
+    }
+
+    private static void imageOfAllThatWasTold() {
+        RopeToALake x = busy();
+        RopeToALake y = busy();
+        x.image(true);
+        y.image(true);
+        y.image(false);
+        x.notches(8);
+        for (int i = 0; i < 8; i++) {
+            x.bucket(i, 1, 1);
+            x.splice(5, 0, 0);
+        }
+        spareTellings(x);
+        for (int i = 0; i < 30; i++) {
+            x.absent(2, i, 1);
+            x.log(2, 60);
+        }
+        law(x, "share 1 when not 1=1;share 77;share 88;", 3);
+        x.image(false);
+        sameSight(x, y);
+        due("all goes on", x.hours(100), y.hours(100));
+        sameSight(x, y);
+        no("thirty absences", x.absent(7, 77, 8));
+        for (int i = 9; i < 40; i++) {
+            yes("logs", x.log(0, 1));
+        }
+        no("forty logs", x.log(0, 1));
     }
 
     private static void same(int[] due, int[] got) {
