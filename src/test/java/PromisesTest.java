@@ -206,20 +206,20 @@ public final class PromisesTest {
             x.bucket(13 - i, 90 + i % 9, i);
         }
         for (int i = 0; i < 9; i++) {
-            x.farm(30 + i, 1 + i % 3, 1, 3 + 40 * i);
+            x.farm(30 + i, 1 + i % 3, 1, 9000 + 40 * i);
             x.log(i, 5 + i);
         }
         for (int i = 0; i < 8; i++) {
             x.splice(90000 + i, 1 + i, 10 * i + 1);
         }
         for (int p = 1; p < 14; p++) {
-            x.tell(5, p, p % 9);
+            x.tell(5, p, (p - 1) % 9);
         }
         for (int h = 0; h < 24; h++) {
             x.turn(h, h % 9);
         }
         for (int i = 0; i < 30; i++) {
-            x.absent(i % 3, i / 3, 3 + i % 3);
+            x.absent(6 + i % 3, i / 3, 3 + i % 3);
         }
         for (int a = 0; a < 9; a++) {
             for (int b = 0; b < a; b++) {
@@ -231,6 +231,11 @@ public final class PromisesTest {
         law(x, "share drops+pulled+1 when farm>3; share wet+need+day+dry+owes;", 2);
         x.hours(100);
         due("drops came up", x.look(2) > 0 ? 1 : 0, 1);
+        due("drops in bucket 0", x.pail(0, 3) > 0 ? 1 : 0, 1);
+        for (int w = 5; w <= 9; w++) {
+            due("of farm 0, " + w, x.of(0, w) > 0 ? 1 : 0, 1);
+        }
+        due("farm 6 owes", x.owes(6, 3) > 0 ? 1 : 0, 1);
         return x;
     }
 
@@ -248,6 +253,16 @@ public final class PromisesTest {
     }
 
     private static void notchesMakeAllAnew() {
+        RopeToALake z = busy();
+        z.notches(14);
+        z.bucket(0, 5, 0);
+        z.farm(1, 0, 0, 0);
+        z.farm(1, 0, 0, 0);
+        due("an empty bucket", z.pail(0, 3), 0);
+        due("no drops", z.look(11), 0);
+        for (int w = 4; w <= 12; w++) {
+            due("a new farm, " + w, z.of(0, w), 0);
+        }
         RopeToALake x = busy();
         x.notches(8);
         x.state(0);
@@ -549,6 +564,9 @@ public final class PromisesTest {
     }
 
     private static void faultPlaces() {
+        badLaw("()".repeat(200), 1, 0);
+        badLaw("share 1" + "+".repeat(393), 1, 8);
+        badLaw("share 1" + "+1".repeat(196) + "*", 1, 400);
         badLaw("share", 1, 5);
         badLaw("share ", 1, 6);
         badLaw("Share 1;", 1, 0);
@@ -610,6 +628,8 @@ public final class PromisesTest {
         law(x, "share 3 when not 1=1 or not 1=1 or not 1=1 or not 1=1 or not 1=1 or not 1=1 or "
                 + "not 1=1 or not 1=1 or not 1=1 or not 1=2;", 1);
         due("its weight", x.of(0, 10), 3);
+        law(x, "share 1" + "+1".repeat(196) + ";", 1);
+        due("its weight", x.of(0, 10), 197);
         law(x, "share 4 when 1=2 or (1=2 or 1=1 and (1=2 or 1=1 and (1=2 or 1=1 and (1=2 or 1=1 and "
                 + "(1=2 or 1=1 and (1=2 or 1=1 and (1=2 or 1=1 and (1=2 or 1=1 and 1+1*1=1+1*1))))))));", 1);
         due("its weight", x.of(0, 10), 4);
@@ -852,6 +872,13 @@ public final class PromisesTest {
         due("farm 1", shared("share farm*farm/2+1 when farm>0 and farm<3; share 4 when farm=3;", 4, 1), 1);
         due("farm 2", shared("share farm*farm/2+1 when farm>0 and farm<3; share 4 when farm=3;", 4, 2), 4);
         due("farm 3", shared("share farm*farm/2+1 when farm>0 and farm<3; share 4 when farm=3;", 4, 3), 5);
+        // 10 by 1, 2: 3 rest 1, 6 rest 2
+        due("farm 0", shared("share farm+1;", 2, 0), 3);
+        due("farm 1", shared("share farm+1;", 2, 1), 7);
+        // 10 by 7, 7, 7, 7: 2 each, the two left to farms 0 and 1
+        for (int f = 0; f < 4; f++) {
+            due("farm " + f, shared("share 7;", 4, f), f < 2 ? 3 : 2);
+        }
         // 10 by 5, 5, 5, 5, 5, 5, 5, 5, 5: 1 each, the one left to farm 0
         due("farm 0", shared("share 5;", 9, 0), 2);
         due("farm 8", shared("share 5;", 9, 8), 1);
@@ -1046,6 +1073,13 @@ public final class PromisesTest {
         due("four farms", y.best(0), 240);
         y.farm(0, 0, 0, 0);
         due("five farms", y.best(0), NONE);
+        RopeToALake last = mill();
+        for (int i = 1; i < 4; i++) {
+            last.farm(8 + i, 0, 0, 0);
+        }
+        last.best(0);
+        due("the last way of all", last.best(10) * 1000 + last.best(11) * 100 + last.best(12) * 10 + last.best(13), 3333);
+        due("its water", last.best(0), 320);
         RopeToALake idle = mill();
         idle.hours(20);
         idle.tell(0, 0, 0);
@@ -1081,6 +1115,10 @@ public final class PromisesTest {
         due("every farm", way(x), 1);
         x.farm(1, 0, 0, 0);
         due("every farm", way(x), 12);
+        x.foes(1, 2, true);
+        due("0 between them", way(x), 102);
+        due("0 between them", x.peace(0), 0);
+        x.foes(1, 2, false);
         x.foes(0, 1, true);
         // 0 2 1 2 is the first of those in which 0 and 1 never meet
         due("no foes meet", x.peace(0), 0);
