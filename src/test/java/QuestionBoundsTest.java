@@ -516,6 +516,12 @@ public final class QuestionBoundsTest {
         Bounds.due("none at step 2", x.breaks(2), NONE);
         x.mend(1, 10);
         Bounds.due("two at step 3", x.breaks(99999), 2);
+        RopeToALake y = new RopeToALake();
+        y.splice(1, 1, 0);
+        y.splice(0, 1, 0);
+        Bounds.due("one at 0 now is ahead of one at step 1", y.breaks(1), 1);
+        y.mend(1, 1);
+        Bounds.due("two at step 1", y.breaks(1), 0);
     }
 
     private static void breaksRefused() {
